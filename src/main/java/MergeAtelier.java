@@ -16,7 +16,7 @@ public final class MergeAtelier {
     /** How nothing is answered; it is less than all values, so that it comes first. */
     private static final int NOTHING = -1000;
 
-    /** Where there is no commit, no side or no item. */
+    /** Where there is no commit or no side. */
     private static final int NONE = -1;
 
     /** Rows behind those of the commits, for merges that are tried, but not made. */

@@ -33,10 +33,22 @@ public final class ModelTest {
     private static void compareRun(int run, int total) {
         MergeAtelier x = new MergeAtelier();
         Model model = new Model();
+        boolean early = run % 4 == 0;
         for (int i = 0; i < CALLS; i++) {
-            int method = i < items ? 0 : methodAt(below(total));
-            compareCall("run " + run + ", call " + i + ": ", x, model, method);
+            String where = "run " + run + ", call " + i + ": ";
+            if (i >= items && early && model.commits() < 64 + run % 8 && i < 200) {
+                setToOwnValue(where, x, model, i);
+            } else {
+                compareCall(where, x, model, i < items ? 0 : methodAt(below(total)));
+            }
         }
+    }
+
+    /** A value of its own for each commit lets the values told be many. */
+    private static void setToOwnValue(String where, MergeAtelier x, Model model, int number) {
+        int item = below(items);
+        int value = number % 2 == 0 ? number : -number;
+        same(where + "set", () -> model.set(0, item, value), () -> x.set(0, item, value));
     }
 
     private static int methodAt(int point) {

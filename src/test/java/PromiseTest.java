@@ -101,6 +101,23 @@ public final class PromiseTest {
         return x;
     }
 
+    /**
+     * Three items, 75 commits, and a second branch: in the head of the branch 0 the items hold 170, 171 and
+     * nothing, in that of the branch 1 they hold 172, 173 and nothing, each value told behind 64 others.
+     */
+    private static MergeAtelier withLateValues() {
+        MergeAtelier x = withItems(3);
+        for (int value = 0; value < 70; value++) {
+            x.set(0, 0, value);
+        }
+        x.addBranch(70);
+        x.set(0, 0, 170);
+        x.set(0, 1, 171);
+        x.set(1, 0, 172);
+        x.set(1, 1, 173);
+        return x;
+    }
+
     // What is due.
 
     private static void due(Object want, String what, Due.Call call) {
@@ -280,6 +297,7 @@ public final class PromiseTest {
         MergeAtelier open = withConflict();
         due(5, "set of an item that holds a conflict", () -> open.set(0, 1, 3));
         sidesDue(open, 5, 1, 3);
+        lateValuesStay();
         branchRefused("set", (y, branch) -> y.set(branch, 0, 1000));
         itemRefused("set", (y, item) -> y.set(0, item, 1000));
         for (int value : new int[] {1000, -1000, -1001, LEAST, MOST}) {
@@ -291,6 +309,33 @@ public final class PromiseTest {
                 y -> y.set(0, 0, 1000));
         refused(NO_INDEX, "set of a wrong item when full", PromiseTest::full,
                 y -> y.set(0, 1, 1000));
+    }
+
+    /** Values that were told behind 64 others are copied, compared and joined like these. */
+    private static void lateValuesStay() {
+        MergeAtelier x = withLateValues();
+        due(75, "set beside late values", () -> x.set(0, 2, -5));
+        sidesDue(x, 75, 0, 170);
+        sidesDue(x, 75, 1, 171);
+        sidesDue(x, 75, 2, -5);
+        due(170L + 171L - 5L, "sum of late values", () -> x.sum(75));
+        x.quote(0, 1, -1);
+        due(false, "isBroken of late values", () -> x.isBroken(0, 75));
+        due(true, "isBroken of an early and a late value", () -> x.isBroken(0, 73));
+        due(2, "wouldConflict of late values", () -> x.wouldConflict(0, 1));
+        due(76, "merge of late values", () -> x.merge(0, 1));
+        sidesDue(x, 76, 0, 170, 172);
+        sidesDue(x, 76, 1, 171, 173);
+        sidesDue(x, 76, 2, -5);
+        due(1, "differences of late values", () -> x.differences(71, 72));
+        due(71, "blame of a late value", () -> x.blame(75, 0));
+        x.addBranch(74);
+        due(77, "pick beside late values", () -> x.pick(2, 75));
+        sidesDue(x, 77, 0, 172);
+        sidesDue(x, 77, 1, 173);
+        sidesDue(x, 77, 2, -5);
+        due(78, "pick of a late value", () -> x.pick(2, 72));
+        sidesDue(x, 78, 1, 171, 173);
     }
 
     private static void promise07Clear() {
@@ -760,29 +805,65 @@ public final class PromiseTest {
         sidesDue(x, 8, 1, 2);
         sidesDue(x, 8, 2, 6);
         brokenInOneSideAlready();
+        openInOneSideAlready();
+        brokenBetweenNothingAndValue();
         brokenByTheMergeAlone();
         quotesByRisingNumbers();
     }
 
     /** A quote that is broken in one of both commits is let alone. */
     private static void brokenInOneSideAlready() {
+        for (int branch = 0; branch < 2; branch++) {
+            MergeAtelier x = withItems(3);
+            x.set(0, 0, 1);
+            x.set(0, 1, 1);
+            x.addBranch(2);
+            x.quote(0, 1, 0);
+            x.set(branch, 1, 3);
+            x.set(1 - branch, 2, 8);
+            x.merge(0, 1);
+            sidesDue(x, 5, 0, 1);
+            sidesDue(x, 5, 1, 3);
+            sidesDue(x, 5, 2, 8);
+            due(true, "isBroken(0, 5)", () -> x.isBroken(0, 5));
+        }
+    }
+
+    /** A quote that is open in one of both commits is let alone. */
+    private static void openInOneSideAlready() {
+        for (int branch = 0; branch < 2; branch++) {
+            MergeAtelier x = withItems(2);
+            x.set(0, 1, 7);
+            x.addBranch(1);
+            x.set(0, 0, 1);
+            x.set(1, 0, 2);
+            x.merge(0, 1);
+            x.merge(1, 0);
+            x.quote(0, 1, 0);
+            x.set(branch, 0, 7);
+            x.set(1 - branch, 1, 9);
+            x.merge(0, 1);
+            sidesDue(x, 8, 0, 7);
+            sidesDue(x, 8, 1, 9);
+        }
+    }
+
+    /** Two items that both hold nothing are as the quote wants it, so that a merge can break it. */
+    private static void brokenBetweenNothingAndValue() {
         MergeAtelier x = withItems(2);
-        x.set(0, 0, 1);
-        x.set(0, 1, 1);
-        x.addBranch(2);
+        x.set(0, 0, 5);
+        x.addBranch(1);
         x.quote(0, 1, 0);
-        x.set(0, 0, 2);
-        x.set(1, 1, 3);
+        x.clear(0, 0);
+        x.set(1, 1, 5);
         x.merge(0, 1);
-        sidesDue(x, 5, 0, 2);
-        sidesDue(x, 5, 1, 3);
-        due(true, "isBroken(0, 5)", () -> x.isBroken(0, 5));
+        sidesDue(x, 4, 0, -1000, 5);
+        sidesDue(x, 4, 1, -1000, 5);
     }
 
     /**
-     * The items 0 and 1 hold the same in both commits, but by other values; since the item 1 holds
-     * in the first commit what it holds in the base, and the item 0 does so in the second one,
-     * the merge tells the item 0 of the first and the item 1 of the second.
+     * The items 0 and 1 hold 2 and 2 in the head of the branch 0, and 1 and 1 in that of the branch 1.
+     * Since each head was changed in one item alone, a merge tells 2 and 1, unless a quote is told.
      */
     private static MergeAtelier crossed() {
         MergeAtelier x = withItems(4);

@@ -34,6 +34,10 @@ final class Due {
         }
     }
 
+    static int askedCount() {
+        return asked;
+    }
+
     static int wrongCount() {
         return wrong;
     }

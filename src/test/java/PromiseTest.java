@@ -1,22 +1,14 @@
 /** Ordinary inputs, edges and wrong inputs for each promise of the document, by its number. */
 public final class PromiseTest {
-    private static final String NO_INDEX = "throws.IndexOutOfBoundsException";
-    private static final String NO_ARGUMENT = "throws.IllegalArgumentException";
-    private static final String NO_STATE = "throws.IllegalStateException";
-    private static final String NO_ELEMENT = "throws.NoSuchElementException";
-    private static final String NO_OPERATION = "throws.UnsupportedOperationException";
+    private static final String NO_INDEX = NoChange.NO_INDEX;
+    private static final String NO_ARGUMENT = NoChange.NO_ARGUMENT;
+    private static final String NO_STATE = NoChange.NO_STATE;
+    private static final String NO_ELEMENT = NoChange.NO_ELEMENT;
+    private static final String NO_OPERATION = NoChange.NO_OPERATION;
     private static final int LEAST = Integer.MIN_VALUE;
     private static final int MOST = Integer.MAX_VALUE;
 
     private static String promise = "";
-
-    private interface Maker {
-        MergeAtelier make();
-    }
-
-    private interface Use {
-        Object with(MergeAtelier x);
-    }
 
     private PromiseTest() {
     }
@@ -58,66 +50,6 @@ public final class PromiseTest {
         Due.end("PromiseTest");
     }
 
-    // Objects to begin with.
-
-    private static MergeAtelier withItems(int items) {
-        MergeAtelier x = new MergeAtelier();
-        for (int item = 0; item < items; item++) {
-            x.addItem("tcs".charAt(item % 3));
-        }
-        return x;
-    }
-
-    /**
-     * Three items, two branches. Commits: 1 sets item 0 to 5, 2 sets item 1 to 7 in the branch 0,
-     * 3 sets item 1 to -4 in the branch 1, and 4 merges the branch 1 into the branch 0: the item 1
-     * holds -4 and 7 there.
-     */
-    private static MergeAtelier withConflict() {
-        MergeAtelier x = withItems(3);
-        x.set(0, 0, 5);
-        x.addBranch(1);
-        x.set(0, 1, 7);
-        x.set(1, 1, -4);
-        x.merge(0, 1);
-        return x;
-    }
-
-    /** One item, and 100 commits in the branch 0; the commit n sets the item to n. */
-    private static MergeAtelier full() {
-        MergeAtelier x = withItems(1);
-        for (int value = 1; value < 100; value++) {
-            x.set(0, 0, value);
-        }
-        return x;
-    }
-
-    /** 100 commits; in the head 99 of the branch 0 the item 1 holds a conflict of -4 and 7. */
-    private static MergeAtelier fullWithConflict() {
-        MergeAtelier x = withConflict();
-        for (int commit = 5; commit < 100; commit++) {
-            x.set(0, 0, commit);
-        }
-        return x;
-    }
-
-    /**
-     * Three items, 75 commits, and a second branch: in the head of the branch 0 the items hold 170, 171 and
-     * nothing, in that of the branch 1 they hold 172, 173 and nothing, each value told behind 64 others.
-     */
-    private static MergeAtelier withLateValues() {
-        MergeAtelier x = withItems(3);
-        for (int value = 0; value < 70; value++) {
-            x.set(0, 0, value);
-        }
-        x.addBranch(70);
-        x.set(0, 0, 170);
-        x.set(0, 1, 171);
-        x.set(1, 0, 172);
-        x.set(1, 1, 173);
-        return x;
-    }
-
     // What is due.
 
     private static void due(Object want, String what, Due.Call call) {
@@ -134,58 +66,28 @@ public final class PromiseTest {
         }
     }
 
-    /** A call that throws, and an object that answers afterwards as one without that call. */
-    private static void refused(String want, String what, Maker maker, Use call) {
-        MergeAtelier used = maker.make();
-        due(want, what, () -> call.with(used));
-        Due.same(promise + ": " + what + " changed something", view(maker.make()), view(used));
-    }
-
-    /** All that can be asked of an object with few calls. */
-    private static String view(MergeAtelier x) {
-        StringBuilder text = new StringBuilder();
-        int last = x.commits() - 1;
-        text.append(last);
-        for (int branch = 0; branch < 6; branch++) {
-            int number = branch;
-            text.append(' ').append(Due.ask(() -> x.head(number)));
-        }
-        for (int tag = 0; tag < 10; tag++) {
-            int number = tag;
-            text.append(' ').append(Due.ask(() -> x.tagged(number)));
-        }
-        for (int item = 0; item < 13; item++) {
-            int number = item;
-            text.append(' ').append(Due.ask(() -> x.kindOf(number)));
-            text.append(' ').append(Due.ask(() -> x.sideAt(last, number, 0)));
-            text.append(' ').append(Due.ask(() -> x.sideByLog(last, number, 1)));
-            text.append(' ').append(Due.ask(() -> x.blame(last, number)));
-        }
-        for (int quote = 0; quote < 11; quote++) {
-            int number = quote;
-            text.append(' ').append(Due.ask(() -> x.isBroken(number, last)));
-        }
-        return text.toString();
+    private static void refused(String want, String what, NoChange.Maker maker, NoChange.Use call) {
+        NoChange.due(want, promise + ": " + what, maker, call);
     }
 
     /** A call with a commit as its argument refuses the numbers that no commit has. */
     private static void commitRefused(String what, java.util.function.BiFunction<MergeAtelier, Integer, Object> call) {
         for (int commit : new int[] {-1, 5, 100, LEAST, MOST}) {
-            refused(NO_INDEX, what + " of the commit " + commit, PromiseTest::withConflict,
+            refused(NO_INDEX, what + " of the commit " + commit, Start::withConflict,
                     x -> call.apply(x, commit));
         }
     }
 
     private static void itemRefused(String what, java.util.function.BiFunction<MergeAtelier, Integer, Object> call) {
         for (int item : new int[] {-1, 3, 12, LEAST, MOST}) {
-            refused(NO_INDEX, what + " of the item " + item, PromiseTest::withConflict,
+            refused(NO_INDEX, what + " of the item " + item, Start::withConflict,
                     x -> call.apply(x, item));
         }
     }
 
     private static void branchRefused(String what, java.util.function.BiFunction<MergeAtelier, Integer, Object> call) {
         for (int branch : new int[] {-1, 2, 5, LEAST, MOST}) {
-            refused(NO_INDEX, what + " of the branch " + branch, PromiseTest::withConflict,
+            refused(NO_INDEX, what + " of the branch " + branch, Start::withConflict,
                     x -> call.apply(x, branch));
         }
     }
@@ -208,7 +110,7 @@ public final class PromiseTest {
             int number = tag;
             due(NO_ELEMENT, "tagged(" + tag + ")", () -> x.tagged(number));
         }
-        MergeAtelier busy = withConflict();
+        MergeAtelier busy = Start.withConflict();
         MergeAtelier fresh = new MergeAtelier();
         due(5, "commits() of a busy object", () -> busy.commits());
         due(1, "commits() of a fresh object beside it", () -> fresh.commits());
@@ -225,11 +127,11 @@ public final class PromiseTest {
         due(NO_ARGUMENT, "addItem of a wrong kind when full", () -> x.addItem('x'));
         due(NO_INDEX, "kindOf(12)", () -> x.kindOf(12));
         for (char kind : new char[] {'T', 'C', 'S', 'x', 'r', 'u', 'b', 'd', 0, ' ', 0x174, 0xffff}) {
-            refused(NO_ARGUMENT, "addItem(" + (int) kind + ")", PromiseTest::withConflict,
+            refused(NO_ARGUMENT, "addItem(" + (int) kind + ")", Start::withConflict,
                     y -> y.addItem(kind));
         }
-        refused(NO_STATE, "addItem when full", () -> withItems(12), y -> y.addItem('c'));
-        MergeAtelier late = withConflict();
+        refused(NO_STATE, "addItem when full", () -> Start.withItems(12), y -> y.addItem('c'));
+        MergeAtelier late = Start.withConflict();
         due(3, "addItem after commits", () -> late.addItem('c'));
         for (int commit = 0; commit < 5; commit++) {
             sidesDue(late, commit, 3, -1000);
@@ -238,7 +140,7 @@ public final class PromiseTest {
 
     private static void promise03KindOf() {
         promise = "3";
-        MergeAtelier x = withItems(3);
+        MergeAtelier x = Start.withItems(3);
         due('t', "kindOf(0)", () -> x.kindOf(0));
         due('c', "kindOf(1)", () -> x.kindOf(1));
         due('s', "kindOf(2)", () -> x.kindOf(2));
@@ -247,7 +149,7 @@ public final class PromiseTest {
 
     private static void promise04AddBranch() {
         promise = "4";
-        MergeAtelier x = withItems(1);
+        MergeAtelier x = Start.withItems(1);
         x.set(0, 0, 1);
         for (int branch = 1; branch < 5; branch++) {
             int commit = branch % 2;
@@ -264,7 +166,7 @@ public final class PromiseTest {
 
     private static void promise05Head() {
         promise = "5";
-        MergeAtelier x = withConflict();
+        MergeAtelier x = Start.withConflict();
         due(4, "head(0)", () -> x.head(0));
         due(3, "head(1)", () -> x.head(1));
         x.clear(1, 0);
@@ -275,7 +177,7 @@ public final class PromiseTest {
 
     private static void promise06Set() {
         promise = "6";
-        MergeAtelier x = withItems(2);
+        MergeAtelier x = Start.withItems(2);
         due(1, "set(0, 0, 999)", () -> x.set(0, 0, 999));
         due(2, "set(0, 1, -999)", () -> x.set(0, 1, -999));
         due(3, "set(0, 1, -999) again", () -> x.set(0, 1, -999));
@@ -294,26 +196,26 @@ public final class PromiseTest {
         due(1, "parentAt(5, 0)", () -> x.parentAt(5, 0));
         due(4, "head(0) after a change in the branch 1", () -> x.head(0));
         sidesDue(x, 5, 0, 999);
-        MergeAtelier open = withConflict();
+        MergeAtelier open = Start.withConflict();
         due(5, "set of an item that holds a conflict", () -> open.set(0, 1, 3));
         sidesDue(open, 5, 1, 3);
         lateValuesStay();
         branchRefused("set", (y, branch) -> y.set(branch, 0, 1000));
         itemRefused("set", (y, item) -> y.set(0, item, 1000));
         for (int value : new int[] {1000, -1000, -1001, LEAST, MOST}) {
-            refused(NO_ARGUMENT, "set(0, 0, " + value + ")", PromiseTest::withConflict,
+            refused(NO_ARGUMENT, "set(0, 0, " + value + ")", Start::withConflict,
                     y -> y.set(0, 0, value));
         }
-        refused(NO_STATE, "set of a 101st commit", PromiseTest::full, y -> y.set(0, 0, 5));
-        refused(NO_ARGUMENT, "set of a wrong value when full", PromiseTest::full,
+        refused(NO_STATE, "set of a 101st commit", Start::full, y -> y.set(0, 0, 5));
+        refused(NO_ARGUMENT, "set of a wrong value when full", Start::full,
                 y -> y.set(0, 0, 1000));
-        refused(NO_INDEX, "set of a wrong item when full", PromiseTest::full,
+        refused(NO_INDEX, "set of a wrong item when full", Start::full,
                 y -> y.set(0, 1, 1000));
     }
 
     /** Values that were told behind 64 others are copied, compared and joined like these. */
     private static void lateValuesStay() {
-        MergeAtelier x = withLateValues();
+        MergeAtelier x = Start.withLateValues();
         due(75, "set beside late values", () -> x.set(0, 2, -5));
         sidesDue(x, 75, 0, 170);
         sidesDue(x, 75, 1, 171);
@@ -340,7 +242,7 @@ public final class PromiseTest {
 
     private static void promise07Clear() {
         promise = "7";
-        MergeAtelier x = withConflict();
+        MergeAtelier x = Start.withConflict();
         due(5, "clear(0, 0)", () -> x.clear(0, 0));
         sidesDue(x, 5, 0, -1000);
         sidesDue(x, 5, 1, -4, 7);
@@ -350,33 +252,22 @@ public final class PromiseTest {
         due(NO_OPERATION, "clear(0, 0) again", () -> x.clear(0, 0));
         due(6, "clear of a conflict", () -> x.clear(0, 1));
         sidesDue(x, 6, 1, -1000);
-        MergeAtelier half = withHalfConflict();
+        MergeAtelier half = Start.withHalfConflict();
         sidesDue(half, 4, 0, -1000, 2);
         due(5, "clear of nothing and a value", () -> half.clear(0, 0));
         sidesDue(half, 5, 0, -1000);
         branchRefused("clear", (y, branch) -> y.clear(branch, 0));
         itemRefused("clear", (y, item) -> y.clear(0, item));
-        refused(NO_OPERATION, "clear(0, 2)", PromiseTest::withConflict, y -> y.clear(0, 2));
-        refused(NO_STATE, "clear when full", PromiseTest::full, y -> y.clear(0, 0));
-        refused(NO_INDEX, "clear of a wrong item when full", PromiseTest::full, y -> y.clear(0, 1));
-        refused(NO_OPERATION, "clear of nothing when full", PromiseTest::fullWithConflict,
+        refused(NO_OPERATION, "clear(0, 2)", Start::withConflict, y -> y.clear(0, 2));
+        refused(NO_STATE, "clear when full", Start::full, y -> y.clear(0, 0));
+        refused(NO_INDEX, "clear of a wrong item when full", Start::full, y -> y.clear(0, 1));
+        refused(NO_OPERATION, "clear of nothing when full", Start::fullWithConflict,
                 y -> y.clear(0, 2));
-    }
-
-    /** The item 0 holds nothing and 2 in the merge 4 of both branches. */
-    private static MergeAtelier withHalfConflict() {
-        MergeAtelier x = withItems(2);
-        x.set(0, 0, 1);
-        x.addBranch(1);
-        x.clear(0, 0);
-        x.set(1, 0, 2);
-        x.merge(0, 1);
-        return x;
     }
 
     private static void promise08Settle() {
         promise = "8";
-        MergeAtelier x = withConflict();
+        MergeAtelier x = Start.withConflict();
         due(5, "settle(0, 1, 0)", () -> x.settle(0, 1, 0));
         sidesDue(x, 5, 1, -4);
         sidesDue(x, 5, 0, 5);
@@ -385,30 +276,30 @@ public final class PromiseTest {
         due(4, "parentAt(5, 0)", () -> x.parentAt(5, 0));
         due(1, "parents(5)", () -> x.parents(5));
         due(NO_OPERATION, "settle again", () -> x.settle(0, 1, 0));
-        MergeAtelier y = withConflict();
+        MergeAtelier y = Start.withConflict();
         due(5, "settle(0, 1, 1)", () -> y.settle(0, 1, 1));
         sidesDue(y, 5, 1, 7);
-        MergeAtelier half = withHalfConflict();
+        MergeAtelier half = Start.withHalfConflict();
         due(5, "settle to nothing", () -> half.settle(0, 0, 0));
         sidesDue(half, 5, 0, -1000);
         branchRefused("settle", (z, branch) -> z.settle(branch, 1, 0));
         itemRefused("settle", (z, item) -> z.settle(0, item, 0));
         for (int index : new int[] {-1, 2, 3, LEAST, MOST}) {
-            refused(NO_ELEMENT, "settle(0, 1, " + index + ")", PromiseTest::withConflict,
+            refused(NO_ELEMENT, "settle(0, 1, " + index + ")", Start::withConflict,
                     z -> z.settle(0, 1, index));
-            refused(NO_OPERATION, "settle(0, 0, " + index + ")", PromiseTest::withConflict,
+            refused(NO_OPERATION, "settle(0, 0, " + index + ")", Start::withConflict,
                     z -> z.settle(0, 0, index));
-            refused(NO_ELEMENT, "settle when full", PromiseTest::fullWithConflict,
+            refused(NO_ELEMENT, "settle when full", Start::fullWithConflict,
                     z -> z.settle(0, 1, index));
         }
-        refused(NO_STATE, "settle when full", PromiseTest::fullWithConflict, z -> z.settle(0, 1, 0));
-        refused(NO_OPERATION, "settle of no conflict when full", PromiseTest::fullWithConflict,
+        refused(NO_STATE, "settle when full", Start::fullWithConflict, z -> z.settle(0, 1, 0));
+        refused(NO_OPERATION, "settle of no conflict when full", Start::fullWithConflict,
                 z -> z.settle(0, 0, 0));
     }
 
     private static void promise09Tag() {
         promise = "9";
-        MergeAtelier x = withConflict();
+        MergeAtelier x = Start.withConflict();
         due(-1, "tag(0, 4)", () -> x.tag(0, 4));
         due(4, "tag(0, 0)", () -> x.tag(0, 0));
         due(0, "tag(0, 3)", () -> x.tag(0, 3));
@@ -420,39 +311,39 @@ public final class PromiseTest {
         commitRefused("tag", (y, commit) -> y.tag(1, commit));
         commitRefused("tag of a wrong tag", (y, commit) -> y.tag(10, commit));
         for (int tag : new int[] {-1, 10, LEAST, MOST}) {
-            refused(NO_ARGUMENT, "tag(" + tag + ", 4)", PromiseTest::withConflict,
+            refused(NO_ARGUMENT, "tag(" + tag + ", 4)", Start::withConflict,
                     y -> y.tag(tag, 4));
         }
     }
 
     private static void promise10Tagged() {
         promise = "10";
-        MergeAtelier x = withConflict();
+        MergeAtelier x = Start.withConflict();
         due(NO_ELEMENT, "tagged(5)", () -> x.tagged(5));
         x.tag(5, 2);
         due(2, "tagged(5) after tag", () -> x.tagged(5));
         due(NO_ELEMENT, "tagged(4)", () -> x.tagged(4));
         due(NO_ELEMENT, "tagged(6)", () -> x.tagged(6));
         for (int tag : new int[] {-1, 10, LEAST, MOST}) {
-            refused(NO_ARGUMENT, "tagged(" + tag + ")", PromiseTest::withConflict,
+            refused(NO_ARGUMENT, "tagged(" + tag + ")", Start::withConflict,
                     y -> y.tagged(tag));
         }
     }
 
     private static void promise11Commits() {
         promise = "11";
-        MergeAtelier x = withConflict();
+        MergeAtelier x = Start.withConflict();
         due(5, "commits()", () -> x.commits());
         x.settle(0, 1, 0);
         x.clear(0, 0);
         x.pick(1, 6);
         due(8, "commits() after settle, clear and pick", () -> x.commits());
-        due(100, "commits() when full", () -> full().commits());
+        due(100, "commits() when full", () -> Start.full().commits());
     }
 
     private static void promise12Parents() {
         promise = "12";
-        MergeAtelier x = withConflict();
+        MergeAtelier x = Start.withConflict();
         due(0, "parents(0)", () -> x.parents(0));
         due(1, "parents(1)", () -> x.parents(1));
         due(2, "parents(4)", () -> x.parents(4));
@@ -463,23 +354,23 @@ public final class PromiseTest {
 
     private static void promise13ParentAt() {
         promise = "13";
-        MergeAtelier x = withConflict();
+        MergeAtelier x = Start.withConflict();
         due(0, "parentAt(1, 0)", () -> x.parentAt(1, 0));
         due(1, "parentAt(3, 0)", () -> x.parentAt(3, 0));
         due(2, "parentAt(4, 0)", () -> x.parentAt(4, 0));
         due(3, "parentAt(4, 1)", () -> x.parentAt(4, 1));
         commitRefused("parentAt", (y, commit) -> y.parentAt(commit, -1));
-        refused(NO_ELEMENT, "parentAt(0, 0)", PromiseTest::withConflict, y -> y.parentAt(0, 0));
-        refused(NO_ELEMENT, "parentAt(1, 1)", PromiseTest::withConflict, y -> y.parentAt(1, 1));
+        refused(NO_ELEMENT, "parentAt(0, 0)", Start::withConflict, y -> y.parentAt(0, 0));
+        refused(NO_ELEMENT, "parentAt(1, 1)", Start::withConflict, y -> y.parentAt(1, 1));
         for (int index : new int[] {-1, 2, LEAST, MOST}) {
-            refused(NO_ELEMENT, "parentAt(4, " + index + ")", PromiseTest::withConflict,
+            refused(NO_ELEMENT, "parentAt(4, " + index + ")", Start::withConflict,
                     y -> y.parentAt(4, index));
         }
     }
 
     private static void promise14IsAncestor() {
         promise = "14";
-        MergeAtelier x = withConflict();
+        MergeAtelier x = Start.withConflict();
         due(true, "isAncestor(4, 4)", () -> x.isAncestor(4, 4));
         due(true, "isAncestor(0, 4)", () -> x.isAncestor(0, 4));
         due(true, "isAncestor(2, 4)", () -> x.isAncestor(2, 4));
@@ -488,7 +379,7 @@ public final class PromiseTest {
         due(false, "isAncestor(2, 3)", () -> x.isAncestor(2, 3));
         x.pick(1, 2);
         due(false, "isAncestor of a picked commit", () -> x.isAncestor(2, 5));
-        MergeAtelier all = full();
+        MergeAtelier all = Start.full();
         for (int commit : new int[] {0, 1, 31, 32, 62, 63, 64, 65, 98, 99}) {
             due(true, "isAncestor(" + commit + ", 99)", () -> all.isAncestor(commit, 99));
             due(commit <= 64, "isAncestor(" + commit + ", 64)", () -> all.isAncestor(commit, 64));
@@ -499,7 +390,7 @@ public final class PromiseTest {
 
     private static void promise15Base() {
         promise = "15";
-        MergeAtelier x = withConflict();
+        MergeAtelier x = Start.withConflict();
         due(1, "base(2, 3)", () -> x.base(2, 3));
         due(1, "base(3, 2)", () -> x.base(3, 2));
         due(3, "base(4, 3)", () -> x.base(4, 3));
@@ -514,7 +405,7 @@ public final class PromiseTest {
         due(3, "base(5, 4)", () -> x.base(5, 4));
         due(4, "base(6, 4)", () -> x.base(6, 4));
         due(3, "base(5, 6)", () -> x.base(5, 6));
-        MergeAtelier all = full();
+        MergeAtelier all = Start.full();
         due(70, "base(70, 99)", () -> all.base(70, 99));
         due(63, "base(64, 63)", () -> all.base(64, 63));
         commitRefused("base", (y, commit) -> y.base(commit, 0));
@@ -523,50 +414,38 @@ public final class PromiseTest {
 
     private static void promise16Sides() {
         promise = "16";
-        MergeAtelier x = withConflict();
+        MergeAtelier x = Start.withConflict();
         due(1, "sides(0, 0)", () -> x.sides(0, 0));
         due(1, "sides(4, 0)", () -> x.sides(4, 0));
         due(2, "sides(4, 1)", () -> x.sides(4, 1));
         due(1, "sides(4, 2)", () -> x.sides(4, 2));
-        due(2, "sides of a half conflict", () -> withHalfConflict().sides(4, 0));
+        due(2, "sides of a half conflict", () -> Start.withHalfConflict().sides(4, 0));
         commitRefused("sides", (y, commit) -> y.sides(commit, 0));
         itemRefused("sides", (y, item) -> y.sides(4, item));
     }
 
     private static void promise17SideAt() {
         promise = "17";
-        MergeAtelier x = withConflict();
+        MergeAtelier x = Start.withConflict();
         due(-1000, "sideAt(0, 1, 0)", () -> x.sideAt(0, 1, 0));
         due(-4, "sideAt(4, 1, 0)", () -> x.sideAt(4, 1, 0));
         due(7, "sideAt(4, 1, 1)", () -> x.sideAt(4, 1, 1));
-        MergeAtelier many = withManySides();
+        MergeAtelier many = Start.withManySides();
         int head = many.head(0);
         sidesDue(many, head, 0, -999, -70, -3, 0, 2, 40, 999);
         wideConflict();
         commitRefused("sideAt", (y, commit) -> y.sideAt(commit, 0, 5));
         itemRefused("sideAt", (y, item) -> y.sideAt(4, item, 5));
         for (int index : new int[] {-1, 2, LEAST, MOST}) {
-            refused(NO_ELEMENT, "sideAt(4, 1, " + index + ")", PromiseTest::withConflict,
+            refused(NO_ELEMENT, "sideAt(4, 1, " + index + ")", Start::withConflict,
                     y -> y.sideAt(4, 1, index));
         }
-        refused(NO_ELEMENT, "sideAt(4, 0, 1)", PromiseTest::withConflict, y -> y.sideAt(4, 0, 1));
-    }
-
-    /** The item 0 holds seven values in the head of the branch 0, told in no order. */
-    private static MergeAtelier withManySides() {
-        MergeAtelier x = withItems(2);
-        x.addBranch(0);
-        x.set(0, 0, 40);
-        for (int value : new int[] {-3, 999, 0, -999, 2, -70}) {
-            x.set(1, 0, value);
-            x.merge(0, 1);
-        }
-        return x;
+        refused(NO_ELEMENT, "sideAt(4, 0, 1)", Start::withConflict, y -> y.sideAt(4, 0, 1));
     }
 
     /** Fifty sides in one conflict, by turns below and above those told before. */
     private static void wideConflict() {
-        MergeAtelier x = withItems(2);
+        MergeAtelier x = Start.withItems(2);
         x.addBranch(0);
         x.set(0, 0, -500);
         for (int i = 1; i <= 49; i++) {
@@ -589,7 +468,7 @@ public final class PromiseTest {
 
     private static void promise18SideByLog() {
         promise = "18";
-        MergeAtelier x = withConflict();
+        MergeAtelier x = Start.withConflict();
         x.quote(0, 1, 3);
         x.pick(1, 2);
         x.settle(0, 1, 1);
@@ -603,25 +482,25 @@ public final class PromiseTest {
         due(-1000, "sideByLog(0, 2, 0)", () -> x.sideByLog(0, 2, 0));
         for (int commit = 1; commit < 100; commit += 14) {
             int number = commit;
-            due(commit, "sideByLog(" + commit + ", 0, 0)", () -> full().sideByLog(number, 0, 0));
+            due(commit, "sideByLog(" + commit + ", 0, 0)", () -> Start.full().sideByLog(number, 0, 0));
         }
         logKnowsTheQuotesOfThatTime();
         commitRefused("sideByLog", (y, commit) -> y.sideByLog(commit, 0, 5));
         itemRefused("sideByLog", (y, item) -> y.sideByLog(4, item, 5));
         for (int index : new int[] {-1, 2, LEAST, MOST}) {
-            refused(NO_ELEMENT, "sideByLog(4, 1, " + index + ")", PromiseTest::withConflict,
+            refused(NO_ELEMENT, "sideByLog(4, 1, " + index + ")", Start::withConflict,
                     y -> y.sideByLog(4, 1, index));
         }
     }
 
     /** A quote that is told after a merge does not change what that merge told. */
     private static void logKnowsTheQuotesOfThatTime() {
-        MergeAtelier late = crossed();
+        MergeAtelier late = Start.crossed();
         late.merge(0, 1);
         late.quote(0, 1, 0);
         sidesDue(late, 5, 0, 2);
         sidesDue(late, 5, 1, 1);
-        MergeAtelier early = crossed();
+        MergeAtelier early = Start.crossed();
         early.quote(0, 1, 0);
         early.merge(0, 1);
         sidesDue(early, 5, 0, 1, 2);
@@ -630,31 +509,20 @@ public final class PromiseTest {
 
     private static void promise19Conflicts() {
         promise = "19";
-        MergeAtelier x = withConflict();
+        MergeAtelier x = Start.withConflict();
         due(0, "conflicts(0)", () -> x.conflicts(0));
         due(0, "conflicts(3)", () -> x.conflicts(3));
         due(1, "conflicts(4)", () -> x.conflicts(4));
-        MergeAtelier all = withAllInConflict();
+        MergeAtelier all = Start.withAllInConflict();
         due(12, "conflicts of twelve items", () -> all.conflicts(all.head(0)));
         commitRefused("conflicts", (y, commit) -> y.conflicts(commit));
     }
 
-    private static MergeAtelier withAllInConflict() {
-        MergeAtelier x = withItems(12);
-        x.addBranch(0);
-        for (int item = 0; item < 12; item++) {
-            x.set(0, item, item);
-            x.set(1, item, item - 50);
-        }
-        x.merge(0, 1);
-        return x;
-    }
-
     private static void promise20FirstConflict() {
         promise = "20";
-        MergeAtelier x = withConflict();
+        MergeAtelier x = Start.withConflict();
         due(1, "firstConflict(4)", () -> x.firstConflict(4));
-        MergeAtelier all = withAllInConflict();
+        MergeAtelier all = Start.withAllInConflict();
         for (int item = 0; item < 12; item++) {
             int lowest = item;
             due(item, "firstConflict", () -> all.firstConflict(all.head(0)));
@@ -662,20 +530,20 @@ public final class PromiseTest {
         }
         due(NO_ELEMENT, "firstConflict when all are settled", () -> all.firstConflict(all.head(0)));
         commitRefused("firstConflict", (y, commit) -> y.firstConflict(commit));
-        refused(NO_ELEMENT, "firstConflict(3)", PromiseTest::withConflict, y -> y.firstConflict(3));
+        refused(NO_ELEMENT, "firstConflict(3)", Start::withConflict, y -> y.firstConflict(3));
         due(NO_ELEMENT, "firstConflict without items", () -> new MergeAtelier().firstConflict(0));
     }
 
     private static void promise21Differences() {
         promise = "21";
-        MergeAtelier x = withConflict();
+        MergeAtelier x = Start.withConflict();
         due(0, "differences(4, 4)", () -> x.differences(4, 4));
         due(1, "differences(0, 1)", () -> x.differences(0, 1));
         due(2, "differences(0, 4)", () -> x.differences(0, 4));
         due(2, "differences(4, 0)", () -> x.differences(4, 0));
         due(1, "differences(2, 3)", () -> x.differences(2, 3));
         due(1, "differences of a conflict and one of its sides", () -> x.differences(4, 3));
-        MergeAtelier all = withAllInConflict();
+        MergeAtelier all = Start.withAllInConflict();
         due(12, "differences of twelve items", () -> all.differences(0, all.head(0)));
         commitRefused("differences", (y, commit) -> y.differences(commit, 0));
         commitRefused("differences", (y, commit) -> y.differences(0, commit));
@@ -683,7 +551,7 @@ public final class PromiseTest {
 
     private static void promise22Blame() {
         promise = "22";
-        MergeAtelier x = withConflict();
+        MergeAtelier x = Start.withConflict();
         due(0, "blame(0, 0)", () -> x.blame(0, 0));
         due(1, "blame(4, 0)", () -> x.blame(4, 0));
         due(4, "blame(4, 1)", () -> x.blame(4, 1));
@@ -707,7 +575,7 @@ public final class PromiseTest {
 
     private static void promise23Blamed() {
         promise = "23";
-        MergeAtelier x = withConflict();
+        MergeAtelier x = Start.withConflict();
         due(1, "blamed(4, 0)", () -> x.blamed(4, 0));
         due(1, "blamed(4, 1)", () -> x.blamed(4, 1));
         due(0, "blamed(4, 2)", () -> x.blamed(4, 2));
@@ -722,7 +590,7 @@ public final class PromiseTest {
 
     private static void promise24Merge() {
         promise = "24";
-        MergeAtelier x = withItems(5);
+        MergeAtelier x = Start.withItems(5);
         x.set(0, 0, 1);
         x.set(0, 1, 1);
         x.set(0, 2, 1);
@@ -751,27 +619,16 @@ public final class PromiseTest {
         conflictsMeet();
         branchRefused("merge", (y, branch) -> y.merge(branch, 0));
         branchRefused("merge", (y, branch) -> y.merge(0, branch));
-        refused(NO_OPERATION, "merge(0, 0)", PromiseTest::withConflict, y -> y.merge(0, 0));
-        refused(NO_OPERATION, "merge(0, 1)", PromiseTest::withConflict, y -> y.merge(0, 1));
-        refused(NO_OPERATION, "merge(0, 0) when full", PromiseTest::full, y -> y.merge(0, 0));
-        refused(NO_INDEX, "merge(0, 1) when full", PromiseTest::full, y -> y.merge(0, 1));
-        refused(NO_STATE, "merge when full", PromiseTest::fullAndApart, y -> y.merge(0, 1));
-    }
-
-    /** 100 commits, and the head of the branch 1 is no ancestor of that of the branch 0. */
-    private static MergeAtelier fullAndApart() {
-        MergeAtelier x = withItems(1);
-        x.addBranch(0);
-        x.set(1, 0, 1);
-        for (int value = 2; value < 100; value++) {
-            x.set(0, 0, value);
-        }
-        return x;
+        refused(NO_OPERATION, "merge(0, 0)", Start::withConflict, y -> y.merge(0, 0));
+        refused(NO_OPERATION, "merge(0, 1)", Start::withConflict, y -> y.merge(0, 1));
+        refused(NO_OPERATION, "merge(0, 0) when full", Start::full, y -> y.merge(0, 0));
+        refused(NO_INDEX, "merge(0, 1) when full", Start::full, y -> y.merge(0, 1));
+        refused(NO_STATE, "merge when full", Start::fullAndApart, y -> y.merge(0, 1));
     }
 
     /** A conflict on one side and another value on the other one make a greater conflict. */
     private static void conflictsMeet() {
-        MergeAtelier x = withConflict();
+        MergeAtelier x = Start.withConflict();
         x.addBranch(1);
         x.set(2, 1, 0);
         x.merge(2, 0);
@@ -780,7 +637,7 @@ public final class PromiseTest {
         x.merge(2, 0);
         // The base is the commit 4, in which the first one does not hold what it holds now.
         sidesDue(x, 8, 1, -4, 0, 7);
-        MergeAtelier kept = withConflict();
+        MergeAtelier kept = Start.withConflict();
         kept.addBranch(4);
         kept.set(0, 0, 1);
         kept.settle(2, 1, 0);
@@ -790,7 +647,7 @@ public final class PromiseTest {
 
     private static void promise24MergeByQuotes() {
         promise = "24, quotes";
-        MergeAtelier x = withItems(3);
+        MergeAtelier x = Start.withItems(3);
         x.set(0, 0, 1);
         x.set(0, 1, 1);
         x.addBranch(2);
@@ -814,7 +671,7 @@ public final class PromiseTest {
     /** A quote that is broken in one of both commits is let alone. */
     private static void brokenInOneSideAlready() {
         for (int branch = 0; branch < 2; branch++) {
-            MergeAtelier x = withItems(3);
+            MergeAtelier x = Start.withItems(3);
             x.set(0, 0, 1);
             x.set(0, 1, 1);
             x.addBranch(2);
@@ -832,7 +689,7 @@ public final class PromiseTest {
     /** A quote that is open in one of both commits is let alone. */
     private static void openInOneSideAlready() {
         for (int branch = 0; branch < 2; branch++) {
-            MergeAtelier x = withItems(2);
+            MergeAtelier x = Start.withItems(2);
             x.set(0, 1, 7);
             x.addBranch(1);
             x.set(0, 0, 1);
@@ -850,7 +707,7 @@ public final class PromiseTest {
 
     /** Two items that both hold nothing are as the quote wants it, so that a merge can break it. */
     private static void brokenBetweenNothingAndValue() {
-        MergeAtelier x = withItems(2);
+        MergeAtelier x = Start.withItems(2);
         x.set(0, 0, 5);
         x.addBranch(1);
         x.quote(0, 1, 0);
@@ -861,33 +718,19 @@ public final class PromiseTest {
         sidesDue(x, 4, 1, -1000, 5);
     }
 
-    /**
-     * The items 0 and 1 hold 2 and 2 in the head of the branch 0, and 1 and 1 in that of the branch 1.
-     * Since each head was changed in one item alone, a merge tells 2 and 1, unless a quote is told.
-     */
-    private static MergeAtelier crossed() {
-        MergeAtelier x = withItems(4);
-        x.set(0, 0, 1);
-        x.set(0, 1, 2);
-        x.addBranch(2);
-        x.set(0, 0, 2);
-        x.set(1, 1, 1);
-        return x;
-    }
-
     private static void brokenByTheMergeAlone() {
-        MergeAtelier x = crossed();
+        MergeAtelier x = Start.crossed();
         x.quote(0, 1, 0);
         due(2, "wouldConflict(0, 1)", () -> x.wouldConflict(0, 1));
         due(5, "merge(0, 1)", () -> x.merge(0, 1));
         sidesDue(x, 5, 0, 1, 2);
         sidesDue(x, 5, 1, 1, 2);
         due(false, "isBroken of an open quote", () -> x.isBroken(0, 5));
-        MergeAtelier untold = crossed();
+        MergeAtelier untold = Start.crossed();
         untold.merge(0, 1);
         sidesDue(untold, 5, 0, 2);
         sidesDue(untold, 5, 1, 1);
-        MergeAtelier shifted = crossed();
+        MergeAtelier shifted = Start.crossed();
         shifted.quote(0, 1, 1);
         shifted.merge(0, 1);
         sidesDue(shifted, 5, 0, 2);
@@ -896,7 +739,7 @@ public final class PromiseTest {
 
     /** What an earlier quote made a conflict leaves a later quote open, so that it is let alone. */
     private static void quotesByRisingNumbers() {
-        MergeAtelier x = withItems(4);
+        MergeAtelier x = Start.withItems(4);
         x.set(0, 0, 1);
         x.set(0, 1, 2);
         x.set(0, 2, 1);
@@ -914,7 +757,7 @@ public final class PromiseTest {
 
     private static void promise25WouldConflict() {
         promise = "25";
-        MergeAtelier x = withItems(3);
+        MergeAtelier x = Start.withItems(3);
         x.addBranch(0);
         due(0, "wouldConflict(0, 1) of the same head", () -> x.wouldConflict(0, 1));
         x.set(0, 0, 1);
@@ -928,33 +771,33 @@ public final class PromiseTest {
         due(6, "commits()", () -> x.commits());
         due(2, "head(0)", () -> x.head(0));
         due(5, "head(1)", () -> x.head(1));
-        MergeAtelier open = withConflict();
+        MergeAtelier open = Start.withConflict();
         due(1, "wouldConflict(0, 0) of an open head", () -> open.wouldConflict(0, 0));
         due(1, "wouldConflict(0, 1) of an ancestor", () -> open.wouldConflict(0, 1));
         due(1, "wouldConflict(1, 0)", () -> open.wouldConflict(1, 0));
-        due(1, "wouldConflict when full", () -> fullAndApart().wouldConflict(0, 1));
+        due(1, "wouldConflict when full", () -> Start.fullAndApart().wouldConflict(0, 1));
         branchRefused("wouldConflict", (y, branch) -> y.wouldConflict(branch, 0));
         branchRefused("wouldConflict", (y, branch) -> y.wouldConflict(0, branch));
     }
 
     private static void promise26IsAlike() {
         promise = "26";
-        MergeAtelier x = withConflict();
+        MergeAtelier x = Start.withConflict();
         due(true, "isAlike(0, 1)", () -> x.isAlike(0, 1));
         due(true, "isAlike(1, 0)", () -> x.isAlike(1, 0));
         due(true, "isAlike(0, 0)", () -> x.isAlike(0, 0));
-        MergeAtelier tied = crossed();
+        MergeAtelier tied = Start.crossed();
         tied.quote(0, 1, 0);
         due(true, "isAlike with a quote", () -> tied.isAlike(0, 1));
         due(5, "commits()", () -> tied.commits());
-        due(true, "isAlike when full", () -> fullAndApart().isAlike(0, 1));
+        due(true, "isAlike when full", () -> Start.fullAndApart().isAlike(0, 1));
         branchRefused("isAlike", (y, branch) -> y.isAlike(branch, 0));
         branchRefused("isAlike", (y, branch) -> y.isAlike(0, branch));
     }
 
     private static void promise27Pick() {
         promise = "27";
-        MergeAtelier x = withConflict();
+        MergeAtelier x = Start.withConflict();
         due(5, "pick(1, 2)", () -> x.pick(1, 2));
         sidesDue(x, 5, 1, -4, 7);
         sidesDue(x, 5, 0, 5);
@@ -977,23 +820,23 @@ public final class PromiseTest {
         x.set(0, 0, 6);
         due(13, "pick of a change to the same", () -> x.pick(1, 12));
         due(0, "differences(13, 5)", () -> x.differences(13, 5));
-        MergeAtelier tied = crossed();
+        MergeAtelier tied = Start.crossed();
         tied.quote(0, 1, 0);
         tied.pick(0, 4);
         sidesDue(tied, 5, 0, 2);
         sidesDue(tied, 5, 1, 1);
         branchRefused("pick", (y, branch) -> y.pick(branch, 0));
         commitRefused("pick", (y, commit) -> y.pick(0, commit));
-        refused(NO_OPERATION, "pick(0, 0)", PromiseTest::withConflict, y -> y.pick(0, 0));
-        refused(NO_OPERATION, "pick(0, 4)", PromiseTest::withConflict, y -> y.pick(0, 4));
-        refused(NO_STATE, "pick when full", PromiseTest::full, y -> y.pick(0, 9));
-        refused(NO_OPERATION, "pick(0, 0) when full", PromiseTest::full, y -> y.pick(0, 0));
-        refused(NO_INDEX, "pick(0, 100) when full", PromiseTest::full, y -> y.pick(0, 100));
+        refused(NO_OPERATION, "pick(0, 0)", Start::withConflict, y -> y.pick(0, 0));
+        refused(NO_OPERATION, "pick(0, 4)", Start::withConflict, y -> y.pick(0, 4));
+        refused(NO_STATE, "pick when full", Start::full, y -> y.pick(0, 9));
+        refused(NO_OPERATION, "pick(0, 0) when full", Start::full, y -> y.pick(0, 0));
+        refused(NO_INDEX, "pick(0, 100) when full", Start::full, y -> y.pick(0, 100));
     }
 
     private static void promise28Quote() {
         promise = "28";
-        MergeAtelier x = withItems(3);
+        MergeAtelier x = Start.withItems(3);
         due(0, "quote(0, 1, 99)", () -> x.quote(0, 1, 99));
         due(1, "quote(1, 0, -99)", () -> x.quote(1, 0, -99));
         for (int number = 2; number < 10; number++) {
@@ -1006,16 +849,16 @@ public final class PromiseTest {
         due(1, "commits()", () -> x.commits());
         itemRefused("quote", (y, item) -> y.quote(item, 0, 100));
         itemRefused("quote", (y, item) -> y.quote(0, item, 100));
-        refused(NO_ARGUMENT, "quote(1, 1, 0)", PromiseTest::withConflict, y -> y.quote(1, 1, 0));
+        refused(NO_ARGUMENT, "quote(1, 1, 0)", Start::withConflict, y -> y.quote(1, 1, 0));
         for (int shift : new int[] {100, -100, LEAST, MOST}) {
-            refused(NO_ARGUMENT, "quote(0, 1, " + shift + ")", PromiseTest::withConflict,
+            refused(NO_ARGUMENT, "quote(0, 1, " + shift + ")", Start::withConflict,
                     y -> y.quote(0, 1, shift));
         }
     }
 
     private static void promise29IsBroken() {
         promise = "29";
-        MergeAtelier x = withItems(2);
+        MergeAtelier x = Start.withItems(2);
         x.quote(0, 1, 3);
         due(false, "isBroken of two that hold nothing", () -> x.isBroken(0, 0));
         x.set(0, 0, 10);
@@ -1029,11 +872,11 @@ public final class PromiseTest {
         x.set(0, 0, 16);
         due(false, "isBroken of 16 = 13 + 3", () -> x.isBroken(0, 5));
         // Nothing is no value, though it is answered as -1000.
-        MergeAtelier edge = withItems(2);
+        MergeAtelier edge = Start.withItems(2);
         edge.quote(0, 1, 1);
         edge.set(0, 0, -999);
         due(true, "isBroken of -999 and nothing", () -> edge.isBroken(0, 1));
-        MergeAtelier open = withConflict();
+        MergeAtelier open = Start.withConflict();
         open.quote(0, 1, 99);
         open.quote(1, 0, 99);
         open.quote(0, 2, 5);
@@ -1051,7 +894,7 @@ public final class PromiseTest {
 
     private static void promise30Broken() {
         promise = "30";
-        MergeAtelier x = withConflict();
+        MergeAtelier x = Start.withConflict();
         due(0, "broken(4) without quotes", () -> x.broken(4));
         x.quote(0, 1, 0);
         x.quote(0, 2, 0);
@@ -1068,14 +911,14 @@ public final class PromiseTest {
 
     private static void promise31Sum() {
         promise = "31";
-        MergeAtelier x = withConflict();
+        MergeAtelier x = Start.withConflict();
         due(0L, "sum(0)", () -> x.sum(0));
         due(5L, "sum(1)", () -> x.sum(1));
         due(12L, "sum(2)", () -> x.sum(2));
         due(1L, "sum(3)", () -> x.sum(3));
         due(5L, "sum(4)", () -> x.sum(4));
-        due(0L, "sum of a half conflict", () -> withHalfConflict().sum(4));
-        MergeAtelier most = withItems(12);
+        due(0L, "sum of a half conflict", () -> Start.withHalfConflict().sum(4));
+        MergeAtelier most = Start.withItems(12);
         for (int item = 0; item < 12; item++) {
             most.set(0, item, -999);
         }
@@ -1085,12 +928,12 @@ public final class PromiseTest {
 
     private static void promise32ConflictShare() {
         promise = "32";
-        MergeAtelier x = withConflict();
+        MergeAtelier x = Start.withConflict();
         due(1f / 3f, "conflictShare(4)", () -> x.conflictShare(4));
         due(0f, "conflictShare(3)", () -> x.conflictShare(3));
         x.addItem('t');
         due(0.25f, "conflictShare(4) with one item more", () -> x.conflictShare(4));
-        MergeAtelier all = withAllInConflict();
+        MergeAtelier all = Start.withAllInConflict();
         due(1f, "conflictShare of twelve", () -> all.conflictShare(all.head(0)));
         MergeAtelier none = new MergeAtelier();
         due(NO_ELEMENT, "conflictShare(0) without items", () -> none.conflictShare(0));

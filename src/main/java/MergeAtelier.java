@@ -308,9 +308,8 @@ public final class MergeAtelier {
         requireCommit(commit);
         long total = 0L;
         for (int item = 0; item < itemCount; item++) {
-            int value = kept.loneValue(commit, item);
-            if (value != NOTHING && kept.sideCount(commit, item) == 1) {
-                total += value;
+            if (!kept.holdsConflict(commit, item) && !kept.holdsNothingElse(commit, item)) {
+                total += kept.loneValue(commit, item);
             }
         }
         return total;

@@ -68,14 +68,14 @@ public final class ModelTest {
         return (int) ((seed >>> 33) % bound);
     }
 
-    /** A number from 0 to count - 1, now and then one beyond. */
+    /** A number from 0 to count - 1, now and then one beyond, and seldom one far beyond. */
     private static int around(int count) {
-        int chance = below(60);
-        if (chance == 0) {
-            return -1 - below(2);
+        int chance = below(600);
+        if (chance < 10) {
+            return chance == 0 ? Integer.MIN_VALUE + below(2) : -1 - below(2);
         }
-        if (chance == 1) {
-            return count + below(2);
+        if (chance < 20) {
+            return chance == 10 ? Integer.MAX_VALUE - below(2) : count + below(2);
         }
         return count > 0 ? below(count) : 0;
     }
